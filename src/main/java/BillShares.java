@@ -27,7 +27,7 @@ public final class BillShares {
     private static final int NOT_TESTED = 3;
 
     // A factor under 2^30 times a number up to this one stays in a long.
-    private static final long PLAIN_NUMBER = Long.MAX_VALUE >> 30;
+    private static final long PLAIN_NUMBER = (1L << 33) - 1;
 
     private final ArrayList<Flat> flats = new ArrayList<>();
     private final ArrayList<Flat> flatsByRank = new ArrayList<>();
@@ -233,7 +233,8 @@ public final class BillShares {
      * factor times number / whole, rounded down; 0 if whole is 0.
      * The factor is under 2^30. The number and the whole can come near 4.5 * 10^17 (the uses of 60 meters
      * with 40 readings each, taken over by 19 large barred flats from a tiny one), so the product may not
-     * stay in a long: then the factor is taken three bits at a time, and 15 times the number still does.
+     * stay in a long. Then the factor is taken three bits at a time: a step is under 15 times the greater
+     * of both, which does.
      */
     private static long portion(long factor, long number, long whole) {
         if (whole <= 0) {
@@ -574,11 +575,7 @@ public final class BillShares {
         final long[] base = new long[KINDS];
         final long[] used = new long[KINDS];
         // The share in the edition before; 0 if the flat was not in it.
-        long before;
-
-        Bill() {
-            before = 0;
-        }
+        long before = 0;
 
         long total() {
             long sum = 0;

@@ -90,7 +90,8 @@ public final class ModelTest {
     private void flat() {
         int area = odd(huge ? (flats == 0 ? 1 : 1000) : 1 + upTo(999));
         int rank = odd(random.nextBoolean() ? random.nextInt(3) : upTo(99));
-        if (!same("flat(" + area + ", " + rank + ")", () -> real.flat(area, rank), () -> model.flat(area, rank)).startsWith("t")) {
+        if (!same("flat(" + area + ", " + rank + ")",
+                () -> real.flat(area, rank), () -> model.flat(area, rank)).startsWith("t")) {
             flats++;
         }
     }
@@ -176,7 +177,8 @@ public final class ModelTest {
         } else if (dice < 32) {
             int kind = anyKind();
             int percent = odd(upTo(100));
-            same("base(" + kind + ", " + percent + ")", () -> real.base(kind, percent), () -> model.base(kind, percent));
+            same("base(" + kind + ", " + percent + ")",
+                    () -> real.base(kind, percent), () -> model.base(kind, percent));
         } else if (dice < 34) {
             int flat = anyFlat();
             int day = anyDay();
@@ -202,7 +204,8 @@ public final class ModelTest {
         int who = odd(random.nextInt(random.nextBoolean() ? 2 : 12));
         String of = "(" + flat + ", " + year + ")";
         switch (random.nextInt(9)) {
-            case 0 -> same("use(" + meter + ", " + year + ")", () -> real.use(meter, year), () -> model.use(meter, year));
+            case 0 -> same("use(" + meter + ", " + year + ")",
+                    () -> real.use(meter, year), () -> model.use(meter, year));
             case 1 -> same("barred(" + flat + ", " + kind + ", " + year + ")",
                     () -> real.barred(flat, kind, year), () -> model.barred(flat, kind, year));
             case 2 -> same("share" + of, () -> real.share(flat, year), () -> model.share(flat, year));
