@@ -8,26 +8,28 @@ import java.util.stream.Collectors;
 
 /** The class has the document's face and no other member that is not private. */
 public final class FaceTest {
+    private static final String ARGUMENT = " throws IllegalArgumentException";
+    private static final String BOTH = ARGUMENT + ", IllegalStateException";
     private static final List<String> METHODS = List.of(
-            "int flat(int, int)",
-            "int meter(int, int, int, int, int)",
-            "int reading(int, int, int)",
-            "int changed(int, int, int, int)",
-            "int correct(int, int, int)",
-            "int tested(int, int)",
-            "int cost(int, int, int)",
-            "int base(int, int)",
-            "int moves(int, int)",
-            "long prepaid(int, int, int)",
-            "int run(int)",
-            "long use(int, int)",
-            "int barred(int, int, int)",
-            "long line(int, int, int, int)",
-            "long share(int, int)",
-            "long part(int, int, int)",
-            "long balance(int, int)",
-            "long difference(int, int)",
-            "int edition(int)");
+            "int flat(int, int)" + BOTH,
+            "int meter(int, int, int, int, int)" + BOTH,
+            "int reading(int, int, int)" + BOTH,
+            "int changed(int, int, int, int)" + BOTH,
+            "int correct(int, int, int)" + ARGUMENT,
+            "int tested(int, int)" + ARGUMENT,
+            "int cost(int, int, int)" + ARGUMENT,
+            "int base(int, int)" + ARGUMENT,
+            "int moves(int, int)" + BOTH,
+            "long prepaid(int, int, int)" + ARGUMENT,
+            "int run(int)" + BOTH,
+            "long use(int, int)" + ARGUMENT,
+            "int barred(int, int, int)" + ARGUMENT,
+            "long line(int, int, int, int)" + BOTH,
+            "long share(int, int)" + BOTH,
+            "long part(int, int, int)" + BOTH,
+            "long balance(int, int)" + BOTH,
+            "long difference(int, int)" + BOTH,
+            "int edition(int)" + ARGUMENT);
 
     public static void main(String[] args) {
         checkMethods();
@@ -50,15 +52,18 @@ public final class FaceTest {
                 closedNames.add(method.getName());
                 continue;
             }
-            String types = Arrays.stream(method.getParameterTypes())
-                    .map(Class::getSimpleName).collect(Collectors.joining(", "));
-            open.add(method.getReturnType().getSimpleName() + " " + method.getName() + "(" + types + ")");
+            open.add(method.getReturnType().getSimpleName() + " " + method.getName()
+                    + "(" + names(method.getParameterTypes()) + ") throws " + names(method.getExceptionTypes()));
             openNames.add(method.getName());
             Check.due(method.getName(), "public", Modifier.toString(method.getModifiers()));
         }
         Check.due("the methods", new TreeSet<>(METHODS).toString(), open.toString());
         closedNames.retainAll(openNames);
         Check.due("private methods with a public one's name", "[]", closedNames.toString());
+    }
+
+    private static String names(Class<?>[] types) {
+        return Arrays.stream(types).map(Class::getSimpleName).collect(Collectors.joining(", "));
     }
 
     private static void checkFields() {
