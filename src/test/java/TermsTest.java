@@ -14,6 +14,8 @@ public final class TermsTest {
         usesOfOneFlat();
         barred();
         basePart();
+        goesByAreas();
+        goesByUses();
         centsThatAreLeft();
         centsThatAreLeftByUse();
         useOfBarredFlats();
@@ -274,6 +276,61 @@ public final class TermsTest {
         dueBase(CENTS, CENTS, 100);
         dueBase(0, 3, 30);
         dueBase(1, 4, 30);
+    }
+
+    /** Flat 1 has the lesser rank, so what is rounded down of flat 0 shows. */
+    private static void dueByAreas(int area, int otherArea, int cents, long first) {
+        BillShares x = new BillShares();
+        x.flat(area, 1);
+        x.flat(otherArea, 0);
+        x.cost(0, 0, cents);
+        x.base(0, 100);
+        x.run(0);
+        Check.due(cents + " by areas, " + area, first, () -> x.line(0, 0, 0, 1));
+        Check.due(cents + " by areas, " + otherArea, cents - first, () -> x.line(1, 0, 0, 1));
+    }
+
+    private static void goesByAreas() {
+        dueByAreas(1, 999, 999, 0);
+        dueByAreas(1, 999, 1000, 1);
+        dueByAreas(1, 999, 1999, 1);
+        dueByAreas(1, 999, 2000, 2);
+        dueByAreas(1, 1000, 1000, 0);
+        dueByAreas(1, 1000, 1001, 1);
+        dueByAreas(1000, 1, 1000, 999);
+        dueByAreas(1000, 1, 1001, 1000);
+        dueByAreas(1000, 1000, CENTS, CENTS / 2);
+        dueByAreas(1000, 1000, CENTS - 1, CENTS / 2 - 1);
+        dueByAreas(1, 1, 1, 0);
+        dueByAreas(1, 1, 0, 0);
+    }
+
+    private static void dueByUses(int use, int otherUse, int cents, long first) {
+        BillShares x = new BillShares();
+        x.flat(1000, 1);
+        x.flat(1, 0);
+        x.meter(0, 0, 1, 1, LAST);
+        x.meter(1, 0, 1, 1, LAST);
+        read(x, 0, 0, 0, 365, use);
+        read(x, 1, 0, 0, 365, otherUse);
+        x.cost(0, 0, cents);
+        x.base(0, 0);
+        x.run(0);
+        Check.due(cents + " by uses, " + use, first, () -> x.line(0, 0, 0, 0));
+        Check.due(cents + " by uses, " + otherUse, cents - first, () -> x.line(1, 0, 0, 0));
+    }
+
+    private static void goesByUses() {
+        dueByUses(1, 999, 999, 0);
+        dueByUses(1, 999, 1000, 1);
+        dueByUses(1, 999, 1999, 1);
+        dueByUses(999, 1, 999, 998);
+        dueByUses(999, 1, 1000, 999);
+        dueByUses(0, 1, CENTS, 0);
+        dueByUses(1, 0, CENTS, CENTS);
+        dueByUses(1, 9_999_999, CENTS, 100);
+        dueByUses(1, 10_000_000, CENTS, 99);
+        dueByUses(10_000_000, 10_000_000, CENTS - 1, CENTS / 2 - 1);
     }
 
     /** Flats of one area, with these ranks: what each gets of the base part, then of the used one. */
